@@ -14,15 +14,19 @@ final class Check {
     }
 
     void due(String call, long got, long want) {
-        looks++;
-        if (got != want) {
-            wrong++;
-            System.out.println(test + ": " + call + " answered " + got + ", due is " + want);
-        }
+        due(call, String.valueOf(got), String.valueOf(want));
     }
 
     void due(String call, boolean got, boolean want) {
-        due(call, got ? 1 : 0, want ? 1 : 0);
+        due(call, String.valueOf(got), String.valueOf(want));
+    }
+
+    void due(String call, String got, String want) {
+        looks++;
+        if (!got.equals(want)) {
+            wrong++;
+            System.out.println(test + ": " + call + " answered " + got + ", due is " + want);
+        }
     }
 
     /** The call throws an IllegalArgumentException, and no part of the state that can be seen changes. */

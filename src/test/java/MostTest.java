@@ -1,0 +1,36 @@
+/** Promise 20 (most). */
+public final class MostTest {
+    private static final Check CHECK = new Check("MostTest");
+
+    public static void main(String[] args) {
+        Run.of(CHECK, "nobody yet", new LeasePair(4, 100, 0),
+                "most() = 0; ask(1, 0, 0, 0, 9); most() = 0; carryAll(); most() = 0; carryAll(); most() = 1");
+        Run.of(CHECK, "two addresses", new LeasePair(4, 100, 0),
+                "ask(1, 0, 0, 0, 9); ask(2, 0, 0, 0, 9); carryAll(); carryAll(); client(1, 0) = 0; client(2, 0) = 2",
+                "most() = 1; carryAll() = 0; most() = 1");
+        Run.of(CHECK, "a lease that is over when it is heard", new LeasePair(4, 100, 5),
+                "ask(1, 0, 0, 0, 5); carryAll(); carryAll(); client(1) = -1 5 1; most() = 0",
+                "ask(1, 0, 0, 0, 6); carryAll(); carryAll(); client(1) = 0 6 2; most() = 1");
+        Run.of(CHECK, "one after the other", new LeasePair(2, 100, 0),
+                "ask(1, 0, 0, 0, 5); carryAll(); carryAll(); ask(1, 2, 0, 0, 5); carryAll(); send(0); carryAll()",
+                "carryAll(); ask(2, 0, 0, 0, 5); carryAll(); carryAll(); client(2, 0) = 0; most() = 1");
+        twoAtATime();
+        CHECK.end();
+    }
+
+    /**
+     * The rules of the document let two clients hold one address here: the
+     * UPDATE of a lease that a lone server made and ended again reaches the
+     * partner before the HELLO of that one is heard, and the lease that
+     * followed is not taken in, but makes the address FRESH.
+     */
+    private static void twoAtATime() {
+        Run.of(CHECK, "two at a time", new LeasePair(2, 19, 0),
+                "kill(1); partnerDown(0); ask(0, 0, 0, 0, 50); carry(0); send(0) = 1; ask(0, 2, 0, 0, 1); carry(3)",
+                "ask(1, 0, 0, 0, 13); carry(4); carry(5) = true; client(1, 0) = 0; most() = 1; start(1)",
+                "message(2) = 3 1 0 2 0 1 50; carry(2) = true; carry(6) = true; server(0, 0) = 2",
+                "message(8) = 3 1 0 2 0 3 13; carry(8) = true; carry(9) = true; server(1, 0) = 2; messages() = 11",
+                "ask(0, 0, 1, 0, 40) = 3; carry(11); message(12) = 1 0 1 1 0 3 50; carry(12) = true",
+                "client(0, 0) = 0; client(1, 0) = 0; most() = 2; seconds(13); client(1, 0) = -1; most() = 2");
+    }
+}

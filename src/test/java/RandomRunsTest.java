@@ -1,0 +1,176 @@
+import java.util.ArrayList;
+import java.util.List;
+import java.util.Random;
+
+/** All promises: random runs of 512 calls, the same each time, against the model of the document. */
+public final class RandomRunsTest {
+    private static final int RUNS = 4000;
+    private static final int CALLS = 512;
+    private static final int[] ODD = {Integer.MIN_VALUE, -2, -1, 0, 1, 2, 3, 9, 10, 16, 32, 33, 100, 101, 300, 1000,
+        100000, 100001, Integer.MAX_VALUE};
+    private static final String[] NAMES = {"seconds", "skew", "kill", "fuse", "start", "partnerDown", "ask", "send",
+        "tidy", "give", "carry", "carryAll", "drop", "messages", "message", "client", "record", "server", "most"};
+    private static final int[] ARGUMENTS = {1, 2, 1, 2, 1, 1, 5, 1, 1, 2, 1, 0, 1, 0, 2, 2, 3, 2, 0};
+    /** How often each call is made, in the order of the names. */
+    private static final int[] WEIGHTS = {6, 3, 1, 1, 4, 4, 16, 10, 6, 4, 24, 3, 8, 1, 6, 4, 10, 6, 1};
+
+    private final Random random;
+    private final int addresses;
+    private final int lead;
+    private final int skew;
+    private final int clients;
+    private final LeasePair pair;
+    private final Model model;
+    private final List<String> told = new ArrayList<>();
+
+    private RandomRunsTest(long seed) {
+        random = new Random(seed);
+        addresses = random.nextInt(8) == 0 ? random.nextInt(34) : 2 + random.nextInt(3);
+        lead = random.nextInt(8) == 0 ? odd() : 3 + random.nextInt(30);
+        skew = random.nextInt(8) == 0 ? odd() : random.nextInt(4);
+        clients = 1 + random.nextInt(random.nextInt(4) == 0 ? 16 : 4);
+        pair = new LeasePair(addresses, lead, skew);
+        model = new Model(addresses, lead, skew);
+        told.add("new LeasePair(" + addresses + ", " + lead + ", " + skew + ")");
+    }
+
+    public static void main(String[] args) {
+        int runs = args.length > 0 ? Integer.parseInt(args[0]) : RUNS;
+        for (int seed = 0; seed < runs; seed++) {
+            if (!new RandomRunsTest(seed).isAsDue()) {
+                System.out.println("RandomRunsTest: run " + seed + " is not as due");
+                System.exit(1);
+            }
+        }
+        System.out.println("RandomRunsTest: " + runs + " runs as due");
+    }
+
+    private boolean isAsDue() {
+        for (int i = 0; i < CALLS; i++) {
+            int call = pickCall();
+            int[] a = pickArguments(call);
+            String want = onModel(call, a);
+            String got = onPair(call, a);
+            told.add(NAMES[call] + java.util.Arrays.toString(a) + " answered " + got + ", due is " + want);
+            if (!got.equals(want)) {
+                told.forEach(System.out::println);
+                return false;
+            }
+        }
+        return true;
+    }
+
+    private int odd() {
+        return ODD[random.nextInt(ODD.length)];
+    }
+
+    private int pickCall() {
+        int sum = 0;
+        for (int weight : WEIGHTS) {
+            sum += weight;
+        }
+        int at = random.nextInt(sum);
+        int call = 0;
+        while (at >= WEIGHTS[call]) {
+            at -= WEIGHTS[call];
+            call++;
+        }
+        return call;
+    }
+
+    private int[] pickArguments(int call) {
+        int[] a = likely(call);
+        if (a.length > 0 && random.nextInt(40) == 0) {
+            a[random.nextInt(a.length)] = odd();
+        }
+        return a;
+    }
+
+    private int[] likely(int call) {
+        int server = random.nextInt(2);
+        switch (NAMES[call]) {
+            case "seconds": return new int[] {random.nextInt(30) == 0 ? random.nextInt(200) : random.nextInt(6)};
+            case "skew": return new int[] {server, random.nextInt(4)};
+            case "fuse": return new int[] {server, random.nextInt(8)};
+            case "ask": return likelyRequest(server);
+            case "give": return new int[] {server, 1 + random.nextInt(2)};
+            case "carry": return new int[] {likelyPlace()};
+            case "drop": return new int[] {random.nextInt(model.messages() + 1)};
+            case "message": return new int[] {random.nextInt(model.messages() + 1), random.nextInt(7)};
+            case "client": return new int[] {random.nextInt(clients), random.nextInt(3)};
+            case "record": return new int[] {server, random.nextInt(3), random.nextInt(10)};
+            case "server": return new int[] {server, random.nextInt(9)};
+            default: return ARGUMENTS[call] == 0 ? new int[0] : new int[] {server};
+        }
+    }
+
+    /** Rather one of the last ones, so that a good deal is heard in time. */
+    private int likelyPlace() {
+        int many = model.messages();
+        return random.nextInt(3) == 0 ? random.nextInt(many + 1) : Math.max(0, many - 1 - random.nextInt(3));
+    }
+
+    private int[] likelyRequest(int server) {
+        int client = random.nextInt(clients);
+        int held = model.client(client, 0);
+        int kind = new int[] {0, 0, 1, 1, 2}[random.nextInt(5)];
+        int address = held >= 0 && random.nextInt(3) > 0 ? held : random.nextInt(3);
+        return new int[] {client, kind, server, address, 1 + random.nextInt(60)};
+    }
+
+    private String onPair(int call, int[] a) {
+        try {
+            switch (NAMES[call]) {
+                case "seconds": return "" + pair.seconds(a[0]);
+                case "skew": return "" + pair.skew(a[0], a[1]);
+                case "kill": return "" + pair.kill(a[0]);
+                case "fuse": pair.fuse(a[0], a[1]); return "nothing";
+                case "start": return "" + pair.start(a[0]);
+                case "partnerDown": return "" + pair.partnerDown(a[0]);
+                case "ask": return "" + pair.ask(a[0], a[1], a[2], a[3], a[4]);
+                case "send": return "" + pair.send(a[0]);
+                case "tidy": return "" + pair.tidy(a[0]);
+                case "give": return "" + pair.give(a[0], a[1]);
+                case "carry": return "" + pair.carry(a[0]);
+                case "carryAll": return "" + pair.carryAll();
+                case "drop": return "" + pair.drop(a[0]);
+                case "messages": return "" + pair.messages();
+                case "message": return "" + pair.message(a[0], a[1]);
+                case "client": return "" + pair.client(a[0], a[1]);
+                case "record": return "" + pair.record(a[0], a[1], a[2]);
+                case "server": return "" + pair.server(a[0], a[1]);
+                default: return "" + pair.most();
+            }
+        } catch (IllegalArgumentException e) {
+            return "illegal";
+        }
+    }
+
+    private String onModel(int call, int[] a) {
+        try {
+            switch (NAMES[call]) {
+                case "seconds": return "" + model.seconds(a[0]);
+                case "skew": return "" + model.skew(a[0], a[1]);
+                case "kill": return "" + model.kill(a[0]);
+                case "fuse": model.fuse(a[0], a[1]); return "nothing";
+                case "start": return "" + model.start(a[0]);
+                case "partnerDown": return "" + model.partnerDown(a[0]);
+                case "ask": return "" + model.ask(a[0], a[1], a[2], a[3], a[4]);
+                case "send": return "" + model.send(a[0]);
+                case "tidy": return "" + model.tidy(a[0]);
+                case "give": return "" + model.give(a[0], a[1]);
+                case "carry": return "" + model.carry(a[0]);
+                case "carryAll": return "" + model.carryAll();
+                case "drop": return "" + model.drop(a[0]);
+                case "messages": return "" + model.messages();
+                case "message": return "" + model.message(a[0], a[1]);
+                case "client": return "" + model.client(a[0], a[1]);
+                case "record": return "" + model.record(a[0], a[1], a[2]);
+                case "server": return "" + model.server(a[0], a[1]);
+                default: return "" + model.most();
+            }
+        } catch (IllegalArgumentException e) {
+            return "illegal";
+        }
+    }
+}
