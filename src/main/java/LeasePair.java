@@ -345,13 +345,13 @@ public final class LeasePair {
         /** Of an ACK: the version of the sender's own record. */
         int ownVersion;
 
+        /** The sender puts in its number, and what else its type has. */
         void begin(int newType, int sender, int receiver) {
             type = newType;
             from = sender;
             to = receiver;
             kind = 0;
             address = NONE;
-            number = 0;
             amount = 0;
         }
 
@@ -683,8 +683,9 @@ public final class LeasePair {
                 release(request);
                 return;
             }
-            int address = request.kind == NEW ? leasedTo(request.from, clock) : request.address;
-            int leased = address == NONE ? leaseNew(request, clock) : renew(request, address, clock);
+            int address = request.kind == RENEW ? request.address : leasedTo(request.from, clock);
+            int leased = address == NONE
+                    ? leaseNew(request, clock) : renew(request, address, clock);
             if (leased == SILENT) {
                 return;
             }
@@ -836,7 +837,8 @@ public final class LeasePair {
         /** What the partner took over, or has of what was given to it, is its word's alone. */
         void giveWay(Message update, LeaseRecord r) {
             boolean takenOver = state == RECOVERING && update.voidUpTo >= live;
-            boolean handedOver = r.kind == GIVEN && update.seen == r.version && update.kind != OTHER;
+            boolean handedOver = r.kind == GIVEN && update.seen == r.version
+                    && update.kind != OTHER;
             if (takenOver || handedOver) {
                 r.settle(takenOver && update.kind == OTHER ? OWN : OTHER);
             }

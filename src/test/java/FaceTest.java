@@ -80,7 +80,7 @@ public final class FaceTest {
             CHECK.due("'" + word + "' in the text", text.contains(word), false);
         }
         for (String line : text.split("\n")) {
-            CHECK.due("a line of at most 110 characters: " + line, line.length() <= 110, true);
+            CHECK.due("a line of at most 100 characters: " + line, line.length() <= 100, true);
         }
     }
 }

@@ -66,11 +66,11 @@ public final class UpdateTest {
                 // Server 1 is behind by a request, server 0 by an end; server 0 ends it first.
                 "record(0, 0) = 2 1 20 3 2 20 0 0 1 1; record(1, 0) = 2 1 30 2 1 0 1 0 1 1; seconds(20); tidy(0) = 1",
                 "record(0, 0) = 3 1 20 3 3 20 0 0 1 1; send(1); carryAll(); record(0, 0) = 2 1 30 3 4 20 1 0 1 1");
-        Run.of(CHECK, "no greater end, no greater request", new LeasePair(2, 100, 3), both,
-                "ask(1, 1, 0, 0, 20); carryAll(); drop(0); send(0); carryAll(); drop(0); record(1, 0, 3) = 2",
-                "ask(1, 1, 1, 0, 9); carryAll(); drop(0); send(1); carryAll(); drop(0)",
-                "record(0, 0) = 2 1 20 3 2 20 1 0 1 1; seconds(20); tidy(0) = 1; skew(1, 0)",
-                "ask(1, 1, 1, 0, 9); carryAll(); message(0, 3) = 0; drop(0); tidy(1) = 1; record(1, 0, 0) = 3");
+        Run.of(CHECK, "no greater end, no greater request", new LeasePair(2, 100, 0), both,
+                // The same RENEW twice makes a version that tells nothing more.
+                "ask(1, 1, 1, 0, 5); carry(0); send(1); carry(2); record(0, 0) = 2 1 20 2 1 20 1 0 1 0; carry(0)",
+                "send(1); message(5) = 3 0 1 2 0 2 20; seconds(20); tidy(0) = 1; messages() = 6; carry(5) = true",
+                "record(0, 0) = 3 1 20 2 2 20 2 0 1 1; message(6) = 4 1 0 0 0 2 20");
     }
 
     private static void boundToWhatIsNotItsOwn() {
@@ -127,8 +127,11 @@ public final class UpdateTest {
         Run.of(CHECK, "GIVEN to OTHER", new LeasePair(2, 100, 0),
                 "give(0, 1); send(0); carryAll(); record(1, 0) = 1 -1 0 0 0 0 1 0 0 0; message(0) = 4 0 1 0 0 1 0",
                 "server(1, 8) = 1; carryAll(); record(0, 0) = 0 -1 0 0 1 0 0 0 0 0");
-        Run.of(CHECK, "GIVEN to one that is not OTHER", new LeasePair(2, 100, 0),
-                // Server 1 gives back what it was given before it hears that it is given once more.
+        Run.of(CHECK, "GIVEN to what is OWN", new LeasePair(2, 10, 0),
+                "give(0, 1); kill(0); partnerDown(1); seconds(10); tidy(1) = 1; start(0); send(0) = 2; messages() = 3",
+                "carry(2) = true; record(1, 0) = 1 -1 0 0 1 0 -1 1 0 5; messages() = 3; server(1, 8) = 2");
+        Run.of(CHECK, "GIVEN back and once more", new LeasePair(2, 100, 0),
+                // Server 1 has not heard that what it gave back was taken.
                 "give(0, 1); send(0); carryAll(); carryAll(); give(1, 1); send(1); carry(0); give(0, 1); send(0) = 1",
                 "message(2) = 3 1 0 4 0 2 0; ask(1, 0, 1, 0, 9); carry(3); carry(2) = true",
                 "record(1, 0) = 1 -1 0 0 1 0 2 0 0 0");
@@ -153,10 +156,14 @@ public final class UpdateTest {
     }
 
     private static void voidWords() {
-        Run.of(CHECK, "UPDATE and ACK of an epoch that is VOID", new LeasePair(2, 10, 0),
-                "ask(1, 0, 0, 0, 5); carry(0); drop(0); drop(0); send(0) = 1; ask(9, 2, 1, 0, 1); kill(0)",
-                "partnerDown(1); seconds(10); tidy(1) = 1; record(1, 0) = 1 -1 0 0 1 0 -1 1 0 5; carry(0) = true",
-                "record(1, 0) = 1 -1 0 0 1 0 -1 1 0 5; messages() = 2; server(1, 8) = 2");
+        Run.of(CHECK, "an UPDATE of an epoch that is VOID", new LeasePair(2, 10, 0),
+                "ask(1, 0, 0, 0, 5); carry(0); drop(0); drop(0); send(0) = 1; kill(0); partnerDown(1); seconds(10)",
+                "tidy(1) = 1; ask(1, 0, 1, 0, 3); carry(1); record(1, 0) = 2 1 13 2 2 0 -1 1 2 5; messages() = 3",
+                "carry(0) = true; record(1, 0) = 2 1 13 2 2 0 -1 1 2 5; messages() = 3; server(1, 8) = 3");
+        Run.of(CHECK, "an UPDATE of the epoch behind VOID", new LeasePair(2, 10, 0),
+                "ask(1, 0, 0, 0, 5); carry(0); drop(0); drop(0); kill(0); partnerDown(1); seconds(10); tidy(1) = 1",
+                "ask(1, 0, 1, 0, 3); carry(0); start(0); send(0) = 2; messages() = 5; carry(4) = true",
+                "record(1, 0) = 2 1 13 2 2 0 1 1 2 5; message(5) = 4 0 1 0 0 1 5");
         Run.of(CHECK, "an ACK of an epoch that is VOID", new LeasePair(2, 10, 0),
                 "give(1, 1); send(1); carry(0); messages() = 2; kill(0); partnerDown(1); seconds(10); tidy(1) = 2",
                 "record(1, 1) = 1 -1 0 0 2 0 -1 1 0 5; carry(1) = true; record(1, 1) = 1 -1 0 0 2 0 -1 1 0 5",
