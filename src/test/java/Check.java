@@ -4,9 +4,9 @@ final class Check {
     private int looks = 0;
     private int wrong = 0;
 
-    /** A call that may throw. */
+    /** A call, with its answer as a text. */
     interface Call {
-        void run();
+        String answer();
     }
 
     Check(String test) {
@@ -29,18 +29,11 @@ final class Check {
         }
     }
 
-    /** The call throws an IllegalArgumentException, and no part of the state that can be seen changes. */
-    void illegal(String call, LeasePair pair, Call run) {
+    /** The call throws an IllegalArgumentException, and nothing that can be seen of the pair changes. */
+    void illegal(String what, LeasePair pair, Call call) {
         String before = Look.at(pair);
-        String thrown = "nothing";
-        try {
-            run.run();
-        } catch (RuntimeException e) {
-            thrown = e.getClass().getSimpleName();
-        }
-        due(call + " throws IllegalArgumentException, threw " + thrown,
-                thrown.equals("IllegalArgumentException"), true);
-        due(call + " changes nothing", before.equals(Look.at(pair)), true);
+        due(what, call.answer(), Calls.ILLEGAL);
+        due(what + " changes nothing", before.equals(Look.at(pair)), true);
     }
 
     void end() {

@@ -37,9 +37,8 @@ public final class NewPairTest {
         int[][] asked = {{Integer.MIN_VALUE, 0}, {-1, 0}, {0, 0}, {1, 1}, {999, 999}, {1000, 1000}, {1001, 1000},
             {Integer.MAX_VALUE, 1000}};
         for (int[] row : asked) {
-            LeasePair pair = new LeasePair(2, 10, row[0]);
-            CHECK.due("skew(0, " + row[1] + ") under " + row[0], pair.skew(0, row[1]), 0);
-            CHECK.illegal("skew(0, " + (row[1] + 1) + ")", pair, () -> pair.skew(0, row[1] + 1));
+            Run.of(CHECK, "skew " + row[0], new LeasePair(2, 10, row[0]),
+                    "skew(0, " + row[1] + ") = 0; skew(0, " + (row[1] + 1) + ") = illegal");
         }
     }
 

@@ -1,4 +1,5 @@
 import java.util.ArrayList;
+import java.util.Arrays;
 import java.util.List;
 import java.util.Random;
 
@@ -8,33 +9,30 @@ public final class RandomRunsTest {
     private static final int CALLS = 512;
     private static final int[] ODD = {Integer.MIN_VALUE, -2, -1, 0, 1, 2, 3, 9, 10, 16, 32, 33, 100, 101, 300, 1000,
         100000, 100001, Integer.MAX_VALUE};
-    private static final String[] NAMES = {"seconds", "skew", "kill", "fuse", "start", "partnerDown", "ask", "send",
-        "tidy", "give", "carry", "carryAll", "drop", "messages", "message", "client", "record", "server", "most"};
-    private static final int[] ARGUMENTS = {1, 2, 1, 2, 1, 1, 5, 1, 1, 2, 1, 0, 1, 0, 2, 2, 3, 2, 0};
+    private static final String[] NAMES = Calls.face();
     /** How often each call is made, in the order of the names. */
     private static final int[] WEIGHTS = {6, 3, 1, 1, 4, 4, 16, 10, 6, 4, 24, 3, 8, 1, 6, 4, 10, 6, 1};
 
     private final Random random;
-    private final int addresses;
-    private final int lead;
-    private final int skew;
     private final int clients;
     /** Whether messages are seldom taken from the net, so that it fills up. */
     private final boolean crowded;
-    private final LeasePair pair;
     private final Model model;
+    private final Calls onPair;
+    private final Calls onModel;
     private final List<String> told = new ArrayList<>();
 
     private RandomRunsTest(long seed) {
         // Scattered, for neighbouring seeds would begin with the same numbers.
         random = new Random(seed * 0x9E3779B97F4A7C15L);
         crowded = random.nextInt(8) == 0;
-        addresses = crowded ? random.nextInt(34) : 2 + random.nextInt(3);
-        lead = random.nextInt(8) == 0 ? odd() : 3 + random.nextInt(30);
-        skew = random.nextInt(8) == 0 ? odd() : random.nextInt(4);
+        int addresses = crowded ? random.nextInt(34) : 2 + random.nextInt(3);
+        int lead = random.nextInt(8) == 0 ? odd() : 3 + random.nextInt(30);
+        int skew = random.nextInt(8) == 0 ? odd() : random.nextInt(4);
         clients = 1 + random.nextInt(random.nextInt(4) == 0 ? 16 : 4);
-        pair = new LeasePair(addresses, lead, skew);
         model = new Model(addresses, lead, skew);
+        onPair = new Calls(new LeasePair(addresses, lead, skew));
+        onModel = new Calls(model);
         told.add("new LeasePair(" + addresses + ", " + lead + ", " + skew + ")");
     }
 
@@ -53,9 +51,9 @@ public final class RandomRunsTest {
         for (int i = 0; i < CALLS; i++) {
             int call = pickCall();
             int[] a = pickArguments(call);
-            String want = onModel(call, a);
-            String got = onPair(call, a);
-            told.add(NAMES[call] + java.util.Arrays.toString(a) + " answered " + got + ", due is " + want);
+            String want = onModel.answer(NAMES[call], a);
+            String got = onPair.answer(NAMES[call], a);
+            told.add(NAMES[call] + Arrays.toString(a) + " answered " + got + ", due is " + want);
             if (!got.equals(want)) {
                 told.forEach(System.out::println);
                 return false;
@@ -110,7 +108,7 @@ public final class RandomRunsTest {
             case "client": return new int[] {random.nextInt(clients), random.nextInt(3)};
             case "record": return new int[] {server, random.nextInt(3), random.nextInt(10)};
             case "server": return new int[] {server, random.nextInt(9)};
-            default: return ARGUMENTS[call] == 0 ? new int[0] : new int[] {server};
+            default: return onModel.arguments(NAMES[call]) == 0 ? new int[0] : new int[] {server};
         }
     }
 
@@ -126,61 +124,5 @@ public final class RandomRunsTest {
         int kind = new int[] {0, 0, 1, 1, 2}[random.nextInt(5)];
         int address = held >= 0 && random.nextInt(3) > 0 ? held : random.nextInt(3);
         return new int[] {client, kind, server, address, 1 + random.nextInt(60)};
-    }
-
-    private String onPair(int call, int[] a) {
-        try {
-            switch (NAMES[call]) {
-                case "seconds": return "" + pair.seconds(a[0]);
-                case "skew": return "" + pair.skew(a[0], a[1]);
-                case "kill": return "" + pair.kill(a[0]);
-                case "fuse": pair.fuse(a[0], a[1]); return "nothing";
-                case "start": return "" + pair.start(a[0]);
-                case "partnerDown": return "" + pair.partnerDown(a[0]);
-                case "ask": return "" + pair.ask(a[0], a[1], a[2], a[3], a[4]);
-                case "send": return "" + pair.send(a[0]);
-                case "tidy": return "" + pair.tidy(a[0]);
-                case "give": return "" + pair.give(a[0], a[1]);
-                case "carry": return "" + pair.carry(a[0]);
-                case "carryAll": return "" + pair.carryAll();
-                case "drop": return "" + pair.drop(a[0]);
-                case "messages": return "" + pair.messages();
-                case "message": return "" + pair.message(a[0], a[1]);
-                case "client": return "" + pair.client(a[0], a[1]);
-                case "record": return "" + pair.record(a[0], a[1], a[2]);
-                case "server": return "" + pair.server(a[0], a[1]);
-                default: return "" + pair.most();
-            }
-        } catch (IllegalArgumentException e) {
-            return "illegal";
-        }
-    }
-
-    private String onModel(int call, int[] a) {
-        try {
-            switch (NAMES[call]) {
-                case "seconds": return "" + model.seconds(a[0]);
-                case "skew": return "" + model.skew(a[0], a[1]);
-                case "kill": return "" + model.kill(a[0]);
-                case "fuse": model.fuse(a[0], a[1]); return "nothing";
-                case "start": return "" + model.start(a[0]);
-                case "partnerDown": return "" + model.partnerDown(a[0]);
-                case "ask": return "" + model.ask(a[0], a[1], a[2], a[3], a[4]);
-                case "send": return "" + model.send(a[0]);
-                case "tidy": return "" + model.tidy(a[0]);
-                case "give": return "" + model.give(a[0], a[1]);
-                case "carry": return "" + model.carry(a[0]);
-                case "carryAll": return "" + model.carryAll();
-                case "drop": return "" + model.drop(a[0]);
-                case "messages": return "" + model.messages();
-                case "message": return "" + model.message(a[0], a[1]);
-                case "client": return "" + model.client(a[0], a[1]);
-                case "record": return "" + model.record(a[0], a[1], a[2]);
-                case "server": return "" + model.server(a[0], a[1]);
-                default: return "" + model.most();
-            }
-        } catch (IllegalArgumentException e) {
-            return "illegal";
-        }
     }
 }
