@@ -15,6 +15,7 @@ public final class MostTest {
                 "ask(1, 0, 0, 0, 5); carryAll(); carryAll(); ask(1, 2, 0, 0, 5); carryAll(); send(0); carryAll()",
                 "carryAll(); ask(2, 0, 0, 0, 5); carryAll(); carryAll(); client(2, 0) = 0; most() = 1");
         twoAtATime();
+        twoAtATimeByWhatWasGiven();
         CHECK.end();
     }
 
@@ -32,5 +33,18 @@ public final class MostTest {
                 "message(8) = 3 1 0 2 0 3 13; carry(8) = true; carry(9) = true; server(1, 0) = 2; messages() = 11",
                 "ask(0, 0, 1, 0, 40) = 3; carry(11); message(12) = 1 0 1 1 0 3 50; carry(12) = true",
                 "client(0, 0) = 0; client(1, 0) = 0; most() = 2; seconds(13); client(1, 0) = -1; most() = 2");
+    }
+
+    /**
+     * Here too: the ACK that is sent once more for what was GIVEN tells the
+     * version of a lease that was made meanwhile, so that SEEN skips it.
+     */
+    private static void twoAtATimeByWhatWasGiven() {
+        Run.of(CHECK, "two at a time by what was given", new LeasePair(2, 10, 0),
+                "give(0, 1); send(0); carry(0); drop(1); ask(1, 0, 1, 0, 10); carry(1); carry(0); carry(3) = true",
+                "record(0, 0, 0) = 0; record(0, 0, 6) = 1; send(1); carry(4); record(0, 0, 0) = 0; carry(5)",
+                "record(1, 0, 5) = 10; ask(1, 1, 1, 0, 100); carry(6); carry(7) = true; client(1) = 0 20 2; kill(1)",
+                "partnerDown(0) = true; seconds(10); tidy(0) = 2; ask(2, 0, 0, 0, 5); carry(8); carry(9) = true",
+                "client(1, 0) = 0; client(2, 0) = 0; most() = 2");
     }
 }
