@@ -16,6 +16,7 @@ public final class MostTest {
                 "carryAll(); ask(2, 0, 0, 0, 5); carryAll(); carryAll(); client(2, 0) = 0; most() = 1");
         twoAtATime();
         twoAtATimeByWhatWasGiven();
+        atTheSameTime();
         CHECK.end();
     }
 
@@ -46,5 +47,21 @@ public final class MostTest {
                 "record(1, 0, 5) = 10; ask(1, 1, 1, 0, 100); carry(6); carry(7) = true; client(1) = 0 20 2; kill(1)",
                 "partnerDown(0) = true; seconds(10); tidy(0) = 2; ask(2, 0, 0, 0, 5); carry(8); carry(9) = true",
                 "client(1, 0) = 0; client(2, 0) = 0; most() = 2");
+    }
+
+    /** As in the first run above: the one's lease ends at 13, the other's is heard before, at or behind that. */
+    private static void atTheSameTime() {
+        Edge.of(CHECK, "The greatest number of clients that ever held one address at the same time",
+                Edge.pair(2, 19, 0),
+                "kill(1); partnerDown(0); ask(0, 0, 0, 0, 50); carry(0); send(0); ask(0, 2, 0, 0, 1); carry(3);"
+                + "ask(1, 0, 0, 0, 13); carry(4); carry(5); start(1); carry(2); carry(6); carry(8); carry(9);"
+                + "ask(0, 0, 1, 0, 40); carry(11); seconds(%s); carry(12) = true; client(0, 0) = 0;"
+                + "client(1, 0) = %s; most() = %s",
+                Edge.row(12, 0, 2), Edge.row(13, -1, 1), Edge.row(14, -1, 1));
+        Edge.of(CHECK, "it grows when a lease is heard, and never shrinks", Edge.pair(2, 10, 0),
+                "ask(0, 0, 0, 0, 5); carryAll(); %s; most() = %s",
+                Edge.row("messages()", 0), Edge.row("carryAll()", 1), Edge.row("carryAll(); seconds(5)", 1),
+                Edge.row("seconds(5); carryAll()", 0), Edge.row("carryAll(); ask(0, 2, 0, 0, 1)", 1),
+                Edge.row("carry(0); carry(0)", 1));
     }
 }

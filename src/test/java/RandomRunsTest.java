@@ -1,45 +1,16 @@
 import java.util.ArrayList;
 import java.util.Arrays;
 import java.util.List;
-import java.util.Random;
 
 /** All promises: random runs of 512 calls, the same each time, against the model of the document. */
 public final class RandomRunsTest {
     private static final int RUNS = 4000;
     private static final int CALLS = 512;
-    private static final int[] ODD = {Integer.MIN_VALUE, -2, -1, 0, 1, 2, 3, 9, 10, 16, 32, 33, 100, 101, 300, 1000,
-        100000, 100001, Integer.MAX_VALUE};
-    private static final String[] NAMES = Calls.face();
-    /** How often each call is made, in the order of the names. */
-    private static final int[] WEIGHTS = {6, 3, 1, 1, 4, 4, 16, 10, 6, 4, 24, 3, 8, 1, 6, 4, 10, 6, 1};
-
-    private final Random random;
-    private final int clients;
-    /** Whether messages are seldom taken from the net, so that it fills up. */
-    private final boolean crowded;
-    private final Model model;
-    private final Calls onPair;
-    private final Calls onModel;
-    private final List<String> told = new ArrayList<>();
-
-    private RandomRunsTest(long seed) {
-        // Scattered, for neighbouring seeds would begin with the same numbers.
-        random = new Random(seed * 0x9E3779B97F4A7C15L);
-        crowded = random.nextInt(8) == 0;
-        int addresses = crowded ? random.nextInt(34) : 2 + random.nextInt(3);
-        int lead = random.nextInt(8) == 0 ? odd() : 3 + random.nextInt(30);
-        int skew = random.nextInt(8) == 0 ? odd() : random.nextInt(4);
-        clients = 1 + random.nextInt(random.nextInt(4) == 0 ? 16 : 4);
-        model = new Model(addresses, lead, skew);
-        onPair = new Calls(new LeasePair(addresses, lead, skew));
-        onModel = new Calls(model);
-        told.add("new LeasePair(" + addresses + ", " + lead + ", " + skew + ")");
-    }
 
     public static void main(String[] args) {
         int runs = args.length > 0 ? Integer.parseInt(args[0]) : RUNS;
         for (int seed = 0; seed < runs; seed++) {
-            if (!new RandomRunsTest(seed).isAsDue()) {
+            if (!isAsDue(new RandomRun(seed, CALLS))) {
                 System.out.println("RandomRunsTest: run " + seed + " is not as due");
                 System.exit(1);
             }
@@ -47,82 +18,18 @@ public final class RandomRunsTest {
         System.out.println("RandomRunsTest: " + runs + " runs as due");
     }
 
-    private boolean isAsDue() {
-        for (int i = 0; i < CALLS; i++) {
-            int call = pickCall();
-            int[] a = pickArguments(call);
-            String want = onModel.answer(NAMES[call], a);
-            String got = onPair.answer(NAMES[call], a);
-            told.add(NAMES[call] + Arrays.toString(a) + " answered " + got + ", due is " + want);
-            if (!got.equals(want)) {
+    private static boolean isAsDue(RandomRun run) {
+        List<String> told = new ArrayList<>();
+        told.add("new LeasePair(" + run.addresses + ", " + run.lead + ", " + run.skew + ")");
+        Calls pair = new Calls(run.newPair());
+        for (RandomRun.Step step : run.steps) {
+            String got = pair.answer(step.name(), step.arguments());
+            told.add(step.name() + Arrays.toString(step.arguments()) + " answered " + got + ", due is " + step.due());
+            if (!got.equals(step.due())) {
                 told.forEach(System.out::println);
                 return false;
             }
         }
         return true;
-    }
-
-    private int odd() {
-        return ODD[random.nextInt(ODD.length)];
-    }
-
-    private int pickCall() {
-        int call = pickByWeight();
-        boolean empties = NAMES[call].equals("carryAll") || NAMES[call].equals("drop");
-        return crowded && empties && random.nextInt(8) > 0 ? pickByWeight() : call;
-    }
-
-    private int pickByWeight() {
-        int sum = 0;
-        for (int weight : WEIGHTS) {
-            sum += weight;
-        }
-        int at = random.nextInt(sum);
-        int call = 0;
-        while (at >= WEIGHTS[call]) {
-            at -= WEIGHTS[call];
-            call++;
-        }
-        return call;
-    }
-
-    private int[] pickArguments(int call) {
-        int[] a = likely(call);
-        if (a.length > 0 && random.nextInt(40) == 0) {
-            a[random.nextInt(a.length)] = odd();
-        }
-        return a;
-    }
-
-    private int[] likely(int call) {
-        int server = random.nextInt(2);
-        switch (NAMES[call]) {
-            case "seconds": return new int[] {random.nextInt(30) == 0 ? random.nextInt(200) : random.nextInt(6)};
-            case "skew": return new int[] {server, random.nextInt(4)};
-            case "fuse": return new int[] {server, random.nextInt(8)};
-            case "ask": return likelyRequest(server);
-            case "give": return new int[] {server, 1 + random.nextInt(2)};
-            case "carry": return new int[] {likelyPlace()};
-            case "drop": return new int[] {random.nextInt(model.messages() + 1)};
-            case "message": return new int[] {random.nextInt(model.messages() + 1), random.nextInt(7)};
-            case "client": return new int[] {random.nextInt(clients), random.nextInt(3)};
-            case "record": return new int[] {server, random.nextInt(3), random.nextInt(10)};
-            case "server": return new int[] {server, random.nextInt(9)};
-            default: return onModel.arguments(NAMES[call]) == 0 ? new int[0] : new int[] {server};
-        }
-    }
-
-    /** Rather one of the last ones, so that a good deal is heard in time. */
-    private int likelyPlace() {
-        int many = model.messages();
-        return random.nextInt(3) == 0 ? random.nextInt(many + 1) : Math.max(0, many - 1 - random.nextInt(3));
-    }
-
-    private int[] likelyRequest(int server) {
-        int client = random.nextInt(clients);
-        int held = model.client(client, 0);
-        int kind = new int[] {0, 0, 1, 1, 2}[random.nextInt(5)];
-        int address = held >= 0 && random.nextInt(3) > 0 ? held : random.nextInt(3);
-        return new int[] {client, kind, server, address, 1 + random.nextInt(60)};
     }
 }

@@ -1,10 +1,9 @@
-/** Promises 2 (seconds) and 3 (skew). */
+/** Promises 2 (seconds) and 3 (skew); ArgumentEdgesTest has the end of time. */
 public final class TimeTest {
     private static final Check CHECK = new Check("TimeTest");
 
     public static void main(String[] args) {
         timeGoesOn();
-        timeHasAnEnd();
         offsets();
         CHECK.end();
     }
@@ -16,17 +15,6 @@ public final class TimeTest {
                 "seconds(-1) = illegal; seconds(100001) = illegal",
                 "seconds(-2147483648) = illegal; seconds(2147483647) = illegal",
                 "seconds(1) = 100008");
-    }
-
-    /** No object gets there within 512 calls; the bound is kept all the same. */
-    private static void timeHasAnEnd() {
-        LeasePair pair = new LeasePair(2, 10, 5);
-        for (int i = 0; i < 9999; i++) {
-            pair.seconds(100000);
-        }
-        Run.of(CHECK, "the end of time", pair,
-                "seconds(99999) = 999999999; seconds(2) = illegal; seconds(100000) = illegal",
-                "seconds(1) = 1000000000; seconds(1) = illegal; seconds(0) = 1000000000");
     }
 
     private static void offsets() {
