@@ -14,6 +14,8 @@ public final class LeaseEdgesTest {
         newOfOneWithTwoLeases();
         leastOwnAddress();
         endOfNew();
+        bindingAnew();
+        becomingSole();
         overtakenRenew();
         renewByItsEnd();
         renewOfWhatIsNotLeased();
@@ -118,6 +120,23 @@ public final class LeaseEdgesTest {
         Edge.of(CHECK, "NEW: ALONE there is no such bound, and the address becomes SOLE", Edge.pair(2, 10, 3),
                 calls, Edge.row(ALONE, 9, 18, 18, 5), Edge.row(ALONE, 10, 19, 19, 5), Edge.row(ALONE, 11, 20, 20, 5),
                 Edge.row(ALONE, 100000, 100009, 100009, 5));
+    }
+
+    /** The record bore a released lease before, with an end that was known. */
+    private static void bindingAnew() {
+        Edge.of(CHECK, "BINDING it: kind BOUND, these, not released, since is the new version, known is 0",
+                Edge.pair(2, 100, 0),
+                Edge.LEASED_AT_BOTH + "ask(1, 2, 0, 0, 1); carryAll(); send(0); carryAll(); carryAll();"
+                + "record(0, 0) = 1 1 20 2 2 20 0 0 1 2; ask(%s, 0, 0, 0, 9); carryAll(); record(0, 0) = %s",
+                Edge.row(1, "2 1 9 3 3 0 0 0 3 1"), Edge.row(2, "2 2 9 1 3 0 0 0 3 1"));
+    }
+
+    private static void becomingSole() {
+        Edge.of(CHECK, "NEW: when it is ALONE the address becomes SOLE by that", Edge.pair(2, 100, 0),
+                // The ACK of a release that a lone server hears leaves the address OWN, but not SOLE.
+                "ask(1, 0, 0, 0, 5); carryAll(); carryAll(); ask(1, 2, 0, 0, 1); carryAll(); send(0); carryAll(); %s;"
+                + "carryAll(); record(0, 0, 0) = 1; record(0, 0, 9) = 2; ask(2, 0, 0, 0, 9); carryAll();"
+                + "record(0, 0, 9) = %s", Edge.row("messages()", 1), Edge.row(ALONE, 5));
     }
 
     private static void overtakenRenew() {

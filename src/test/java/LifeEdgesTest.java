@@ -13,6 +13,7 @@ public final class LifeEdgesTest {
         killing();
         allStaysInDeath();
         starting();
+        startingForgetsWhatWasFresh();
         declaringDown();
         declared();
         soleByTheDeclaration();
@@ -83,6 +84,14 @@ public final class LifeEdgesTest {
         Edge.of(CHECK, "start: no address is SOLE, unless it is refused", Edge.pair(2, 10, 0),
                 ALONE + "; record(0, 0, 9) = 4; %s; record(0, 0, 9) = %s",
                 Edge.row("start(0) = false", 4), Edge.row("kill(0)", 4), Edge.row("kill(0); start(0) = true", 0));
+    }
+
+    /** Address 0 is FRESH before the second start; behind it address 1 alone is, or both are. */
+    private static void startingForgetsWhatWasFresh() {
+        Edge.of(CHECK, "start: no address is FRESH", Edge.pair(2, 10, 0),
+                "kill(0); start(0); carryAll(); carry(0); %s message(%s, 4) = 1; carry(%2$s) = true; server(0, 0) = %s",
+                Edge.row("", 1, 2), Edge.row("kill(0); start(0); carry(3);", 5, 1),
+                Edge.row("kill(0); start(0); carry(3); carry(4);", 5, 2));
     }
 
     private static void declaringDown() {

@@ -23,6 +23,7 @@ public final class UpdateEdgesTest {
         versionZeroAndSeenNone();
         voidAndLive();
         voidLessThanLive();
+        ownInsteadOfOther();
         givenWhoseVersionWasSeen();
         boundToBoundByEnd();
         boundToBoundByRequest();
@@ -92,6 +93,17 @@ public final class UpdateEdgesTest {
                 + "carryAll(); kill(0); start(0); carryAll(); message(0) = 3 0 1 2 0 3 18; record(1, 0, 7) = %s;"
                 + "server(0, 4) = %s; server(0, 0) = 1; carry(0) = true; record(0, 0) = %s",
                 Edge.row(1, 2, "2 3 18 2 1 15 3 0 1 0"));
+    }
+
+    private static void ownInsteadOfOther() {
+        Edge.of(CHECK, "(and in the first case OWN instead if the update's kind is OTHER)", Edge.pair(2, 10, 0),
+                // What server 1 took over and leased is over; the late UPDATE of server 0 at place 2 makes it OTHER.
+                "ask(1, 0, 0, 0, 10); carryAll(); drop(0); send(0); carryAll(); carryAll(); seconds(10); tidy(0) = 1;"
+                + "kill(0); partnerDown(1); seconds(10); tidy(1) = 1; ask(1, 0, 1, 0, 5); carryAll(); drop(0);"
+                + "seconds(10); start(0); send(0) = 2; %s carry(0); message(%s) = %s; carry(%2$s) = true;"
+                + "record(0, 0) = %s",
+                Edge.row("carry(2);", 4, "3 0 1 0 0 2 25", "1 1 10 1 2 10 2 0 1 0"),
+                Edge.row("", 3, "3 0 1 2 0 2 25", "2 1 25 2 2 0 2 0 3 0"));
     }
 
     private static void givenWhoseVersionWasSeen() {

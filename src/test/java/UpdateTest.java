@@ -44,8 +44,7 @@ public final class UpdateTest {
     }
 
     private static void boundToBound() {
-        String both = "ask(1, 0, 0, 0, 20); carryAll(); drop(0); send(0); carryAll(); carryAll();";
-        Run.of(CHECK, "BOUND to BOUND", new LeasePair(2, 100, 0), both,
+        Run.of(CHECK, "BOUND to BOUND", new LeasePair(2, 100, 0), Edge.LEASED_AT_BOTH,
                 "seconds(5); ask(1, 1, 0, 0, 40); ask(1, 1, 1, 0, 30); carryAll(); drop(0); drop(0)",
                 "record(0, 0) = 2 1 45 2 2 20 0 0 1 1; record(1, 0) = 2 1 35 3 1 0 1 0 1 1; send(0); send(1)",
                 "carryAll() = 2; record(0, 0) = 2 1 45 3 2 20 1 0 1 1; record(1, 0) = 2 1 45 3 1 0 2 0 1 1",
@@ -53,20 +52,19 @@ public final class UpdateTest {
     }
 
     private static void boundToEnding() {
-        String both = "ask(1, 0, 0, 0, 20); carryAll(); drop(0); send(0); carryAll(); carryAll();";
-        Run.of(CHECK, "a greater request than the RELEASE", new LeasePair(2, 100, 0), both,
+        Run.of(CHECK, "a greater request than the RELEASE", new LeasePair(2, 100, 0), Edge.LEASED_AT_BOTH,
                 "ask(1, 2, 1, 0, 1); carryAll(); record(1, 0) = 3 1 20 2 1 0 1 0 1 3; ask(1, 0, 0, 0, 5); carryAll()",
                 "drop(0); send(0); carryAll(); record(1, 0) = 2 1 20 3 2 0 2 0 1 1; message(0) = 4 0 1 0 0 2 20");
-        Run.of(CHECK, "a lesser request than the RELEASE", new LeasePair(2, 100, 0), both,
+        Run.of(CHECK, "a lesser request than the RELEASE", new LeasePair(2, 100, 0), Edge.LEASED_AT_BOTH,
                 "ask(1, 1, 0, 0, 50); ask(1, 2, 1, 0, 1); carryAll(); drop(0); record(0, 0, 2) = 50",
                 "record(1, 0) = 3 1 20 3 1 0 1 0 1 3; send(0); carryAll(); record(1, 0) = 3 1 50 3 1 0 2 0 1 3",
                 "message(0) = 4 0 1 0 0 2 50");
-        Run.of(CHECK, "a greater end than of what was ended by time", new LeasePair(2, 100, 0), both,
+        Run.of(CHECK, "a greater end than of what was ended by time", new LeasePair(2, 100, 0), Edge.LEASED_AT_BOTH,
                 "ask(1, 1, 1, 0, 30); carryAll(); drop(0); ask(1, 1, 0, 0, 1); carryAll(); drop(0)",
                 // Server 1 is behind by a request, server 0 by an end; server 0 ends it first.
                 "record(0, 0) = 2 1 20 3 2 20 0 0 1 1; record(1, 0) = 2 1 30 2 1 0 1 0 1 1; seconds(20); tidy(0) = 1",
                 "record(0, 0) = 3 1 20 3 3 20 0 0 1 1; send(1); carryAll(); record(0, 0) = 2 1 30 3 4 20 1 0 1 1");
-        Run.of(CHECK, "no greater end, no greater request", new LeasePair(2, 100, 0), both,
+        Run.of(CHECK, "no greater end, no greater request", new LeasePair(2, 100, 0), Edge.LEASED_AT_BOTH,
                 // The same RENEW twice makes a version that tells nothing more.
                 "ask(1, 1, 1, 0, 5); carry(0); send(1); carry(2); record(0, 0) = 2 1 20 2 1 20 1 0 1 0; carry(0)",
                 "send(1); message(5) = 3 0 1 2 0 2 20; seconds(20); tidy(0) = 1; messages() = 6; carry(5) = true",
@@ -82,33 +80,31 @@ public final class UpdateTest {
     }
 
     private static void endingToBound() {
-        String both = "ask(1, 0, 0, 0, 20); carryAll(); drop(0); send(0); carryAll(); carryAll();";
-        Run.of(CHECK, "by time", new LeasePair(2, 100, 3), both,
+        Run.of(CHECK, "by time", new LeasePair(2, 100, 3), Edge.LEASED_AT_BOTH,
                 "skew(0, 1); seconds(19); tidy(0) = 1; send(0); carry(0) = true; messages() = 1; server(1, 8) = 1",
                 "record(1, 0) = 2 1 20 1 0 0 1 0 1 0; seconds(1); carry(0) = true; messages() = 2; server(1, 8) = 2",
                 "record(1, 0) = 0 1 20 1 0 0 2 0 1 0; message(1) = 4 0 1 0 0 2 0; carry(1)",
                 "record(0, 0) = 1 1 20 1 2 20 0 0 1 0");
-        Run.of(CHECK, "by a RELEASE", new LeasePair(2, 100, 3), both,
+        Run.of(CHECK, "by a RELEASE", new LeasePair(2, 100, 3), Edge.LEASED_AT_BOTH,
                 "ask(1, 2, 0, 0, 1); carryAll(); send(0); carryAll(); record(1, 0) = 0 1 20 1 0 0 2 0 1 0; carryAll()",
                 "record(0, 0) = 1 1 20 2 2 20 0 0 1 2");
-        Run.of(CHECK, "by a RELEASE that is overtaken", new LeasePair(2, 100, 3), both,
+        Run.of(CHECK, "by a RELEASE that is overtaken", new LeasePair(2, 100, 3), Edge.LEASED_AT_BOTH,
                 "ask(1, 2, 0, 0, 1); ask(1, 0, 1, 0, 30); carryAll(); drop(0); send(0); carry(0) = true; messages() = 1",
                 "record(1, 0) = 2 1 30 3 1 0 1 0 1 1; server(1, 8) = 2");
-        Run.of(CHECK, "the greater end, not pending any more", new LeasePair(2, 100, 3), both,
+        Run.of(CHECK, "the greater end, not pending any more", new LeasePair(2, 100, 3), Edge.LEASED_AT_BOTH,
                 "ask(1, 1, 1, 0, 30); carryAll(); drop(0); record(1, 0, 9) = 1; ask(1, 2, 0, 0, 1); carryAll()",
                 "send(0); carryAll(); record(1, 0) = 0 1 30 2 1 0 2 0 1 0");
-        Run.of(CHECK, "the update's end when it is greater", new LeasePair(2, 100, 3), both,
+        Run.of(CHECK, "the update's end when it is greater", new LeasePair(2, 100, 3), Edge.LEASED_AT_BOTH,
                 "ask(1, 1, 0, 0, 40); carryAll(); drop(0); ask(1, 2, 0, 0, 1); carryAll(); send(0); carryAll()",
                 "record(1, 0) = 0 1 40 1 0 0 3 0 1 0; message(0) = 4 0 1 0 0 3 0");
-        Run.of(CHECK, "released at a server whose partner knows no release", new LeasePair(2, 100, 0), both,
+        Run.of(CHECK, "released at a server whose partner knows no release", new LeasePair(2, 100, 0), Edge.LEASED_AT_BOTH,
                 // Ended by time, not released: a greater request alone does not do.
                 "skew(0, 0); ask(1, 1, 0, 0, 20); carryAll(); drop(0); ask(1, 1, 1, 0, 90); carryAll(); drop(0)",
                 "seconds(20); tidy(0) = 1; send(0); carryAll(); messages() = 0; record(1, 0, 0) = 2");
     }
 
     private static void endingToEnding() {
-        String both = "ask(1, 0, 0, 0, 20); carryAll(); drop(0); send(0); carryAll(); carryAll();";
-        Run.of(CHECK, "server 1 gives way", new LeasePair(2, 100, 0), both,
+        Run.of(CHECK, "server 1 gives way", new LeasePair(2, 100, 0), Edge.LEASED_AT_BOTH,
                 "seconds(20); tidy(0) = 1; tidy(1) = 1; record(1, 0) = 3 1 20 1 1 0 1 0 1 1; send(1) = 1; carryAll()",
                 "messages() = 0; record(0, 0) = 3 1 20 1 2 20 0 0 1 1; server(0, 8) = 3; send(0); carryAll()",
                 "record(1, 0) = 0 1 20 1 1 0 2 0 1 0; carryAll(); record(0, 0) = 1 1 20 1 2 20 1 0 1 0",
