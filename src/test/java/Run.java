@@ -33,7 +33,7 @@ final class Run {
         }
     }
 
-    private void step(String text) {
+    void step(String text) {
         int equals = text.indexOf('=');
         String call = (equals < 0 ? text : text.substring(0, equals)).trim();
         String want = equals < 0 ? null : text.substring(equals + 1).trim();
