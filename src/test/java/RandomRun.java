@@ -44,6 +44,11 @@ final class RandomRun {
         return new LeasePair(addresses, lead, skew);
     }
 
+    /** The model as it is behind the last step. */
+    Calls model() {
+        return calls;
+    }
+
     private Step step() {
         String name = NAMES[pickCall()];
         int[] arguments = pickArguments(name);
